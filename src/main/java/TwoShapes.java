@@ -296,7 +296,11 @@ public final class TwoShapes {
         }
 
         static int madeOver(int row, int shape) {
-            return shape == OLD && isStrange(row) ? row - row % VS + 1 : row;
+            if (shape == NEW || row == NO_ROW) {
+                return row;
+            }
+            int v = row % VS;
+            return v > 1 ? row - v + 1 : row;
         }
 
         static int number(int row, int shape, int what) {
@@ -489,11 +493,7 @@ public final class TwoShapes {
         }
 
         boolean isReady() {
-            return phase == PHASE_BOTH && pointer == KEYS && isSettled();
-        }
-
-        boolean isSettled() {
-            return queue.length == 0 && differing() == 0;
+            return phase == PHASE_BOTH && pointer == KEYS && queue.length == 0 && differing() == 0;
         }
 
         int turnOver() {
@@ -519,7 +519,7 @@ public final class TwoShapes {
         }
 
         int dropOld() {
-            if (phase != PHASE_TURNED || !isSettled()) {
+            if (phase != PHASE_TURNED || queue.length != 0 || differing() != 0) {
                 return NOT_POSSIBLE;
             }
             phase = PHASE_NEW;
@@ -619,7 +619,7 @@ public final class TwoShapes {
             if (!hasBoth() || queue.latestOf(key) != NONE) {
                 return NOT_POSSIBLE;
             }
-            if (!differs(key)) {
+            if ((differing() & 1 << key) == 0) {
                 return 0;
             }
             int newer = newerOf(key);
@@ -671,16 +671,12 @@ public final class TwoShapes {
         int differing() {
             int keys = 0;
             for (int key = 0; key < KEYS; key++) {
-                if (differs(key)) {
+                boolean unlikeVersions = oldShape.version[key] != newShape.version[key];
+                if (unlikeVersions || oldShape.row[key] != Row.madeOver(newShape.row[key], OLD)) {
                     keys |= 1 << key;
                 }
             }
             return keys;
-        }
-
-        private boolean differs(int key) {
-            return oldShape.version[key] != newShape.version[key]
-                    || oldShape.row[key] != Row.madeOver(newShape.row[key], OLD);
         }
 
         int risky() {

@@ -203,6 +203,9 @@ final class ReadingTest {
         x.writeNew(5, 45, 3);
         x.crash();
         Due.due("c differs", 1 << 30 | 8 | 32 | 64, x.quarrel());
+        x.writeOld(0, 1, 1, 1);
+        x.crash();
+        Due.due("the lowest key, too", 1 << 30 | 1 | 8 | 32 | 64, x.quarrel());
     }
 
     private static void atRisk() {
@@ -218,6 +221,9 @@ final class ReadingTest {
         Due.due(0, y.atRisk());
         y.writeNew(30, 1, 1);
         y.remove(3);
+        y.writeOld(0, 1, 1, 1);
+        Due.due(1 << 30 | 1 | 8, y.atRisk());
+        y.undo();
         Due.due(1 << 30 | 8, y.atRisk());
         y.drain(1);
         Due.due(8, y.atRisk());

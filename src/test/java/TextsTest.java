@@ -45,6 +45,10 @@ final class TextsTest {
         Due.due(0, x.clearText());
         Due.due(1, x.type('o'));
         Due.due("nothing is left of what was", 1, x.fault(1));
+        x.clearText();
+        Due.due("an empty text has no fault", NONE, x.fault(0));
+        Due.due(NONE, x.fault(1));
+        Due.due(0, x.play());
     }
 
     private static void faultIs(TwoShapes x, String text, int place, int reason) {

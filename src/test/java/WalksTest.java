@@ -10,6 +10,7 @@ final class WalksTest {
         stepInCostume();
         count();
         undoEachChange();
+        undoFullQueue();
         undoLimit();
         undoLeavesText();
         noChangeIsNotRecorded();
@@ -105,6 +106,10 @@ final class WalksTest {
         x.crash();
         counts(x, 2, 5, none, 0, 2, 3, 1, 4, 0, 1, 4, 4, 1);
         counts(Tables.dropped(), 3, 4, none, 0, 0, 2, 0, 3, 0, 0, 0, 4, 0);
+        TwoShapes y = Tables.turned();
+        y.writeNew(0, 1, 2);
+        y.drain(1);
+        counts(y, 2, 5, none, 0, 3, 3, 1, 4, 0, 0, 0, 4, 0);
     }
 
     private static void undoEachChange() {
@@ -150,6 +155,23 @@ final class WalksTest {
         z.undo();
         Due.due(2, z.count(0));
         Due.due(2, z.count(4));
+    }
+
+    private static void undoFullQueue() {
+        TwoShapes x = Tables.both();
+        for (int i = 0; i < 8; i++) {
+            x.writeOld(i, i, i, 1);
+        }
+        x.crash();
+        x.undo();
+        x.walk(0, 0);
+        for (int i = 0; i < 8; i++) {
+            Due.due(i, x.queued(i, 0));
+            Due.due(5 + i, x.queued(i, 1));
+            Due.due(0, x.queued(i, 3));
+        }
+        x.drain(8);
+        Due.due(77, x.shapeOf(7, 1, 2));
     }
 
     private static void undoLimit() {

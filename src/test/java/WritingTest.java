@@ -163,9 +163,14 @@ final class WritingTest {
         Due.due(0, x.shapeOf(2, 1, 0));
         Due.due("in order", 2, x.queued(0, 0));
         Due.due(4, x.queued(2, 0));
+        Due.due(9, x.queued(2, 1));
         Due.due(NONE, x.queued(3, 0));
         Due.due("fewer if there are fewer", 0, x.drain(8));
         Due.due(5, x.count(7));
+        for (int i = 0; i < 5; i++) {
+            Due.due(11 * i, x.shapeOf(i, 1, 2));
+            Due.due(5 + i, x.shapeOf(i, 1, 0));
+        }
         Due.due(NO, x.drain(8));
     }
 
@@ -256,6 +261,7 @@ final class WritingTest {
         Due.due(123, x.shapeOf(3, 1, 2));
         Due.due(0, x.mend(3));
         Due.due("of which neither knows", 0, x.mend(0));
+        Due.due("the highest key", 0, x.mend(30));
         Due.due("a removal", 1, x.mend(7));
         Due.due(4, x.shapeOf(7, 1, 0));
         Due.due(0, x.shapeOf(7, 1, 1));
