@@ -1,5 +1,6 @@
-/** Compares answers with those that are due, and tells each wrong one with its line. */
+/** Compares answers with those that are due, and tells the wrong ones with their lines. */
 final class Due {
+    private static final int TOLD = 200;
     private static int wrong = 0;
 
     private Due() {
@@ -12,7 +13,9 @@ final class Due {
     static void due(String call, long want, long got) {
         if (want != got) {
             wrong++;
-            System.out.println(line() + ": " + call + " answered " + got + ", due is " + want);
+            if (wrong <= TOLD) {
+                System.out.println(line() + ": " + call + " answered " + got + ", due is " + want);
+            }
         }
     }
 
@@ -24,9 +27,10 @@ final class Due {
         }
     }
 
+    /** The line of the test itself, not that of a helper. */
     private static String line() {
         return StackWalker.getInstance().walk(frames -> frames
-                .filter(frame -> !frame.getClassName().equals("Due"))
+                .filter(frame -> frame.getClassName().endsWith("Test"))
                 .map(frame -> frame.getFileName() + ":" + frame.getLineNumber())
                 .findFirst().orElse("?"));
     }

@@ -1,73 +1,59 @@
-import java.lang.reflect.Method;
-import java.util.Arrays;
-import java.util.HashMap;
+import java.util.List;
 import java.util.Map;
 import java.util.TreeMap;
 
 /** Runs of 512 calls, the same each time, whose answers have to be those of the model. */
 final class RandomRunsTest {
-    private static final int RUNS = 1500;
+    private static final int RUNS = 12000;
     private static final int CALLS = 512;
-    private static final int LOOK_EVERY = 8;
+    private static final int ENOUGH = 100;
 
-    // Each call with the lowest and the highest argument that is in range.
-    private static final Map<String, int[][]> CALLS_BY_NAME = new TreeMap<>();
-    private static final String[] OFTEN = {"begin", "turn", "back", "drop", "writeOld", "writeNew", "writeNew", "remove",
+    // Each call with the lowest and the highest of each argument that is in range.
+    private static final Map<String, int[]> RANGES = new TreeMap<>(Map.ofEntries(
+            Map.entry("begin", new int[] {}), Map.entry("turn", new int[] {}),
+            Map.entry("back", new int[] {}), Map.entry("drop", new int[] {}),
+            Map.entry("writeOld", new int[] {0, 30, 0, 99, 0, 9, 0, 1}),
+            Map.entry("writeNew", new int[] {0, 30, 0, 999, 0, 3}),
+            Map.entry("remove", new int[] {0, 30}), Map.entry("drain", new int[] {1, 8}),
+            Map.entry("backfill", new int[] {1, 31}), Map.entry("crash", new int[] {}),
+            Map.entry("mend", new int[] {0, 30}), Map.entry("read", new int[] {0, 30, 0, 1, 0, 2}),
+            Map.entry("shapeOf", new int[] {0, 30, 0, 1, 0, 4}), Map.entry("queued", new int[] {0, 7, 0, 3}),
+            Map.entry("keys", new int[] {0, 1}), Map.entry("check", new int[] {}),
+            Map.entry("quarrel", new int[] {}), Map.entry("atRisk", new int[] {}),
+            Map.entry("walk", new int[] {0, 2, 0, 1}), Map.entry("step", new int[] {0, 2}),
+            Map.entry("count", new int[] {0, 12}), Map.entry("undo", new int[] {}),
+            Map.entry("type", new int[] {32, 126}), Map.entry("clearText", new int[] {}),
+            Map.entry("fault", new int[] {0, 1}), Map.entry("play", new int[] {})));
+    private static final String[] CHANGES = {"begin", "turn", "back", "drop", "writeOld", "writeNew", "writeNew", "remove",
         "drain", "drain", "backfill", "backfill", "crash", "mend", "mend", "walk", "step", "step", "undo", "text", "play"};
-    private static final Map<String, Method> METHODS = new HashMap<>();
+    private static final String[] LOOKS = {"read", "shapeOf", "queued", "keys", "check", "quarrel", "atRisk", "count"};
     private static final Map<String, Integer> GOOD = new TreeMap<>();
 
+    private final TwoShapes table = new TwoShapes();
+    private final Model model = new Model();
+    private final int run;
+    private final int keys;
+    private final boolean wild;
     private long seed;
+    private int calls;
+    private boolean alike = true;
 
-    public static void main(String[] args) throws ReflectiveOperationException {
-        put("begin");
-        put("turn");
-        put("back");
-        put("drop");
-        put("writeOld", 0, 30, 0, 99, 0, 9, 0, 1);
-        put("writeNew", 0, 30, 0, 999, 0, 3);
-        put("remove", 0, 30);
-        put("drain", 1, 8);
-        put("backfill", 1, 31);
-        put("crash");
-        put("mend", 0, 30);
-        put("read", 0, 30, 0, 1, 0, 2);
-        put("shapeOf", 0, 30, 0, 1, 0, 4);
-        put("queued", 0, 7, 0, 3);
-        put("keys", 0, 1);
-        put("check");
-        put("quarrel");
-        put("atRisk");
-        put("walk", 0, 2, 0, 1);
-        put("step", 0, 2);
-        put("count", 0, 12);
-        put("undo");
-        put("type", 32, 126);
-        put("clearText");
-        put("fault", 0, 1);
-        put("play");
-        for (Method method : TwoShapes.class.getMethods()) {
-            METHODS.put(method.getName(), method);
-        }
+    public static void main(String[] args) {
         for (int run = 0; run < RUNS; run++) {
-            new RandomRunsTest(run).run(run);
+            new RandomRunsTest(run).run();
         }
-        for (String name : CALLS_BY_NAME.keySet()) {
-            Due.due("some good answers of " + name, 1, GOOD.getOrDefault(name, 0) > 100 ? 1 : 0);
+        for (String name : RANGES.keySet()) {
+            Due.due("enough good answers of " + name, 1, GOOD.getOrDefault(name, 0) > ENOUGH ? 1 : 0);
         }
         Due.end();
     }
 
-    private static void put(String name, int... ranges) {
-        int[][] pairs = new int[ranges.length / 2][];
-        for (int i = 0; i < pairs.length; i++) {
-            pairs[i] = Arrays.copyOfRange(ranges, 2 * i, 2 * i + 2);
-        }
-        CALLS_BY_NAME.put(name, pairs);
-    }
-
     private RandomRunsTest(int run) {
+        this.run = run;
         seed = 7919L * run + 1;
+        // Runs on few keys and on all, in which wrong arguments come often and seldom.
+        keys = new int[] {2, 5, 31}[run % 3];
+        wild = run % 5 == 0;
     }
 
     private int below(int bound) {
@@ -75,56 +61,56 @@ final class RandomRunsTest {
         return (int) ((seed >>> 33) % bound);
     }
 
-    private void run(int run) throws ReflectiveOperationException {
-        TwoShapes table = new TwoShapes();
-        Model model = new Model();
-        int keys = new int[] {2, 5, 31}[run % 3];
-        // Runs in which phases end seldom, in which wrong arguments come seldom, and others.
+    /** Changes and single looks by turns, and a look at all that one of the lists tells in the end. */
+    private void run() {
+        List<Call> last = Looks.ALL.get(run % Looks.ALL.size());
+        // Runs in which phases end seldom, and others.
         boolean steady = run % 2 == 0;
-        boolean wild = run % 5 == 0;
-        boolean alike = true;
-        int calls = 0;
-        while (alike && calls < CALLS) {
-            String name = OFTEN[below(OFTEN.length)];
+        while (alike && calls < CALLS - last.size()) {
+            String name = CHANGES[below(CHANGES.length)];
             if (steady && (name.equals("undo") || name.equals("crash") || name.equals("back")) && below(4) > 0) {
                 name = "backfill";
             }
             if (name.equals("text")) {
-                String text = text(keys);
-                alike &= same(run, calls, table, model, "clearText");
-                for (int i = 0; i < text.length(); i++) {
-                    alike &= same(run, calls, table, model, "type", text.charAt(i));
-                }
-                alike &= same(run, calls, table, model, "fault", 0);
-                alike &= same(run, calls, table, model, "fault", 1);
+                typeText();
                 name = "play";
-                calls += text.length() + 3;
             }
-            alike &= same(run, calls, table, model, name, arguments(name, keys, wild));
-            calls++;
-            alike &= look(run, calls, table, model, keys, wild);
-            if (calls % LOOK_EVERY == 0) {
-                alike &= lookAtAll(run, calls, table, model);
+            same(withArguments(name));
+            for (int looks = below(4); looks > 0; looks--) {
+                same(withArguments(LOOKS[below(LOOKS.length)]));
             }
+        }
+        for (Call call : last) {
+            same(call);
         }
     }
 
-    private int[] arguments(String name, int keys, boolean wild) {
-        int[][] ranges = CALLS_BY_NAME.get(name);
-        int[] numbers = new int[ranges.length];
+    private Call withArguments(String name) {
+        int[] ranges = RANGES.get(name);
+        int[] numbers = new int[ranges.length / 2];
         for (int i = 0; i < numbers.length; i++) {
-            int low = ranges[i][0];
-            int high = ranges[i][1] == 30 ? keys - 1 : ranges[i][1];
-            numbers[i] = low + below(high - low + 1);
+            int low = ranges[2 * i];
+            int high = ranges[2 * i + 1];
+            numbers[i] = low + below((high == 30 ? keys : high + 1) - low);
             if (below(wild ? 8 : 60) == 0) {
-                int[] edges = {low - 1, ranges[i][1] + 1, low, ranges[i][1], Integer.MIN_VALUE, Integer.MAX_VALUE};
+                int[] edges = {low - 1, high + 1, low, high, Integer.MIN_VALUE, Integer.MAX_VALUE};
                 numbers[i] = edges[below(edges.length)];
             }
         }
-        return numbers;
+        return new Call(name, numbers);
     }
 
-    private String text(int keys) {
+    private void typeText() {
+        String text = text();
+        same(new Call("clearText"));
+        for (int i = 0; i < text.length(); i++) {
+            same(new Call("type", text.charAt(i)));
+        }
+        same(new Call("fault", 0));
+        same(new Call("fault", 1));
+    }
+
+    private String text() {
         StringBuilder text = new StringBuilder();
         int orders = below(7);
         for (int i = 0; i < orders; i++) {
@@ -140,47 +126,19 @@ final class RandomRunsTest {
         return text.toString();
     }
 
-    private boolean look(int run, int calls, TwoShapes table, Model model, int keys, boolean wild)
-            throws ReflectiveOperationException {
-        boolean alike = true;
-        for (String name : new String[] {"read", "shapeOf", "queued", "keys", "check", "quarrel", "atRisk", "count"}) {
-            alike &= same(run, calls, table, model, name, arguments(name, keys, wild));
+    /** Makes a call on both, as long as they were alike: behind a wrong answer all may be wrong. */
+    private void same(Call call) {
+        if (!alike || calls == CALLS) {
+            return;
         }
-        return alike;
-    }
-
-    private boolean lookAtAll(int run, int calls, TwoShapes table, Model model) throws ReflectiveOperationException {
-        boolean alike = true;
-        for (String name : new String[] {"read", "shapeOf", "queued", "keys", "check", "quarrel", "atRisk", "count"}) {
-            int[][] ranges = CALLS_BY_NAME.get(name);
-            int[] numbers = new int[ranges.length];
-            for (int i = 0; i < numbers.length; i++) {
-                numbers[i] = ranges[i][0];
-            }
-            int at = 0;
-            while (at < numbers.length || numbers.length == 0) {
-                alike &= same(run, calls, table, model, name, numbers);
-                for (at = 0; at < numbers.length && numbers[at] == ranges[at][1]; at++) {
-                    numbers[at] = ranges[at][0];
-                }
-                if (at == numbers.length) {
-                    break;
-                }
-                numbers[at]++;
-            }
+        calls++;
+        int want = model.call(call.name(), call.arguments());
+        int got = call.on(table);
+        if (want != got) {
+            alike = false;
+            Due.due("run " + run + ", call " + calls + ": " + call, want, got);
+        } else if (want >= 0) {
+            GOOD.merge(call.name(), 1, Integer::sum);
         }
-        return alike;
-    }
-
-    private static boolean same(int run, int calls, TwoShapes table, Model model, String name, int... numbers)
-            throws ReflectiveOperationException {
-        int want = model.call(name, numbers);
-        Object[] given = Arrays.stream(numbers).boxed().toArray();
-        int got = (Integer) METHODS.get(name).invoke(table, given);
-        Due.due("run " + run + ", call " + calls + ": " + name + Arrays.toString(numbers), want, got);
-        if (want >= 0) {
-            GOOD.merge(name, 1, Integer::sum);
-        }
-        return want == got;
     }
 }

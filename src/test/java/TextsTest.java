@@ -6,9 +6,14 @@ final class TextsTest {
 
     public static void main(String[] args) {
         type();
+        typeEachCharacter();
         clearText();
+        clearFullText();
         noFault();
         badForm();
+        digitsOfEachNumber();
+        signsForDigits();
+        missingEnds();
         outOfRange();
         notPossible();
         firstFault();
@@ -17,7 +22,9 @@ final class TextsTest {
         play();
         playIsOneChange();
         playEachOrder();
+        playWithFault();
         fullText();
+        lastPlaceOfText();
         Due.end();
     }
 
@@ -34,6 +41,29 @@ final class TextsTest {
         Due.due(TwoShapes.LIMIT_REACHED, x.type(';'));
         Due.due(BAD, x.type(31));
         Due.due(60, x.count(12));
+    }
+
+    private static void typeEachCharacter() {
+        TwoShapes x = new TwoShapes();
+        for (int character = 32; character <= 126; character++) {
+            int typed = character - 32;
+            if (typed == 60) {
+                x.clearText();
+            }
+            Due.due(typed % 60 + 1, x.type(character));
+        }
+        Due.due(35, x.count(12));
+    }
+
+    private static void clearFullText() {
+        TwoShapes x = new TwoShapes();
+        Tables.type(x, "t".repeat(60));
+        Due.due(60, x.count(12));
+        Due.due(60, x.clearText());
+        Due.due(0, x.count(12));
+        Due.due(1, x.type('t'));
+        Due.due(1, x.clearText());
+        Due.due(0, x.clearText());
     }
 
     private static void clearText() {
@@ -84,6 +114,57 @@ final class TextsTest {
         faultIs(x, "o1,1,1,1;;", 9, 1);
         faultIs(x, "o1,1,1,1; o1,1,1,1;", 9, 1);
         faultIs(x, "o1,1,1,1;o1,1,1,1", 9, 1);
+    }
+
+    // Each order, with "#" for the number that the tests change.
+    private static final String[] NUMBERS = {"o#,1,1,1;", "o1,#,1,1;", "o1,1,#,1;", "o1,1,1,#;", "n#,1,1;", "n1,#,1;",
+        "n1,1,#;", "x#;", "d#;", "b#;", "m#;"};
+
+    /** A table in which each order of NUMBERS with a 1 is possible. */
+    private static TwoShapes willing() {
+        TwoShapes x = Tables.both();
+        x.writeOld(1, 1, 1, 1);
+        x.drain(1);
+        x.writeOld(2, 1, 1, 1);
+        return x;
+    }
+
+    /** "numbers of 1 to 3 digits, 0 ahead allowed" */
+    private static void digitsOfEachNumber() {
+        for (String order : NUMBERS) {
+            faultIs(willing(), order.replace("#", ""), 0, 1);
+            faultIs(willing(), order.replace("#", "1"), NONE, NONE);
+            faultIs(willing(), order.replace("#", "01"), NONE, NONE);
+            faultIs(willing(), order.replace("#", "001"), NONE, NONE);
+            faultIs(willing(), order.replace("#", "0001"), 0, 1);
+            faultIs(willing(), order.replace("#", "1000"), 0, 1);
+        }
+    }
+
+    /** The signs next to the digits and to ";", and others that are no digits. */
+    private static void signsForDigits() {
+        for (String order : NUMBERS) {
+            for (String sign : new String[] {"/", ":", ";", "<", " ", "-", "+", "a", "~", "1/", ":1", "1 ", " 1", "-1", "1.",
+                ",", "1,", ",1", ",,"}) {
+                faultIs(willing(), order.replace("#", sign), 0, 1);
+            }
+        }
+    }
+
+    /** "if it is not of this form, its ';' included" */
+    private static void missingEnds() {
+        for (String order : NUMBERS) {
+            String whole = "t;" + order.replace("#", "1");
+            for (int length = 3; length < whole.length(); length++) {
+                faultIs(Tables.ready(), whole.substring(0, length), 2, 1);
+            }
+            String other = order.replace("#", "1").replace(";", ":");
+            faultIs(willing(), other, 0, 1);
+        }
+        faultIs(Tables.ready(), "t", 0, 1);
+        faultIs(Tables.turned(), "k", 0, 1);
+        faultIs(Tables.ready(), "t:", 0, 1);
+        faultIs(Tables.turned(), "k:", 0, 1);
     }
 
     private static void outOfRange() {
@@ -207,5 +288,38 @@ final class TextsTest {
         Tables.withText(y, "t;k;".repeat(14) + "t;d1");
         Due.due(58, y.fault(0));
         Due.due(1, y.fault(1));
+    }
+
+    /** "NOT_POSSIBLE if it has a fault": also if the orders ahead of it are possible. */
+    private static void playWithFault() {
+        TwoShapes x = Tables.withText(Tables.old(), "o9,1,1,1;o10,1,1,1;x11;");
+        Due.due(NO, x.play());
+        Due.due("nothing is done", 40, x.keys(0));
+        Due.due(4, x.count(1));
+        Due.due("the text stays", 23, x.count(12));
+        x.writeOld(11, 1, 1, 1);
+        Due.due("as soon as it has none", 3, x.play());
+        Due.due(8, x.count(1));
+    }
+
+    /** The last order ends at the last place of the text, or does not fit into it. */
+    private static void lastPlaceOfText() {
+        TwoShapes x = new TwoShapes();
+        String orders = "o1,1,1,1;".repeat(6);
+        Tables.type(x, orders + "x0001;");
+        Due.due(60, x.count(12));
+        Due.due(54, x.fault(0));
+        Due.due(1, x.fault(1));
+        Tables.withText(x, orders + "x001;t");
+        Due.due(59, x.fault(0));
+        Tables.withText(x, orders + "x1;x1;");
+        Due.due("the last order is not possible", 57, x.fault(0));
+        Due.due(3, x.fault(1));
+        Tables.withText(x, orders + "n1,1,3;");
+        Due.due("the last \";\" was not typed", 60, x.count(12));
+        Due.due(54, x.fault(0));
+        Due.due(1, x.fault(1));
+        Tables.withText(x, "o01,1,1,1;" + "o1,1,1,1;".repeat(4) + "n01,01,03;x1;x");
+        Due.due(59, x.fault(0));
     }
 }

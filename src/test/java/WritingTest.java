@@ -21,6 +21,7 @@ final class WritingTest {
         mendToNew();
         mendToOld();
         mendNotPossible();
+        versionLimit();
         Due.end();
     }
 
@@ -311,5 +312,37 @@ final class WritingTest {
         x.drain(1);
         Due.due(0, x.mend(4));
         Due.due(NO, x.mend(3));
+    }
+
+    /**
+     * "LIMIT_REACHED if ... the version would be above 100000": no object can come there in the 512
+     * calls for which it is used, so this looks beyond them.
+     */
+    private static void versionLimit() {
+        TwoShapes x = new TwoShapes();
+        for (int version = 1; version < 100000; version++) {
+            if (version != x.writeOld(3, version % 100, 0, 0)) {
+                Due.due("a version", version, x.count(1));
+            }
+        }
+        Due.due(100000, x.writeNew(5, 123, 3));
+        Due.due(FULL, x.writeOld(3, 1, 1, 1));
+        Due.due(FULL, x.writeNew(3, 1, 1));
+        Due.due(FULL, x.remove(3));
+        Due.due("rather not possible than the limit", NO, x.remove(0));
+        Due.due("rather a bad argument than the limit", BAD, x.writeOld(31, 1, 1, 1));
+        Due.due(100000, x.count(1));
+        Due.due(4, x.count(11));
+        Due.due(3, Tables.withText(x, "x3;").fault(1));
+        Due.due("all but writes goes on", 2, x.begin());
+        Due.due(FULL, x.writeOld(3, 1, 1, 1));
+        Due.due(2, x.backfill(31));
+        Due.due(2, x.turn());
+        Due.due(3, x.undo());
+        x.undo();
+        x.undo();
+        Due.due(0, x.undo());
+        Due.due("the last version is free again", 100000, x.remove(3));
+        Due.due(FULL, x.writeOld(3, 1, 1, 1));
     }
 }
