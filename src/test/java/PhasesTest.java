@@ -13,6 +13,7 @@ final class PhasesTest {
         backKeepsWhatDiffers();
         drop();
         dropNotPossible();
+        whatStaysThroughPhases();
         Due.end();
     }
 
@@ -155,5 +156,27 @@ final class PhasesTest {
         Due.due(2, x.count(0));
         x.mend(20);
         Due.due(1, x.drop());
+    }
+
+    /** The walks, the lost writes, the versions and the text are of no phase. */
+    private static void whatStaysThroughPhases() {
+        TwoShapes x = Tables.ready();
+        x.writeOld(3, 12, 3, 1);
+        x.crash();
+        x.mend(3);
+        x.walk(1, 1);
+        x.step(1);
+        x.walk(2, 0);
+        Tables.type(x, "t;");
+        for (String call : new String[] {"back", "begin", "backfill 31", "turn", "back", "turn", "drop"}) {
+            Due.due(call + " is possible", 1, Call.of(call).on(x) >= 0 ? 1 : 0);
+            Due.due("the version, behind " + call, 5, x.count(1));
+            Due.due("the lost writes, behind " + call, 1, x.count(9));
+            Due.due("the walks, behind " + call, 6, x.count(10));
+            Due.due("the history, behind " + call, 4, x.count(11));
+            Due.due("the text, behind " + call, 2, x.count(12));
+        }
+        Due.due("the walk goes on", 5, x.step(1));
+        Due.due(3, x.step(2));
     }
 }

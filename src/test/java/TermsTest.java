@@ -534,6 +534,13 @@ final class TermsTest {
         Due.due(NO, z.turn());
         z.drain(8);
         Due.due("a later one mends it", 2, z.turn());
+        TwoShapes w = Situation.BEGUN.and("writeNew 3 777 3; backfill 31");
+        Due.due("backfilled ahead of its write in the queue", 0, w.check());
+        Due.due(1, w.count(3));
+        Due.due(0, w.count(8));
+        Due.due(NO, w.turn());
+        w.drain(1);
+        Due.due(1, w.count(8));
     }
 
     // ---- "To drop (phase 2 to 3) is possible if the queue is empty and no key differs; the old shape is
